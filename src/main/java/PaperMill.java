@@ -179,7 +179,7 @@ public final class PaperMill {
 
     public int vat(int v, int pair) {
         if (!isNumber(v, VATS) || pair != -1 && !isNumber(pair, works.moulds.pairs)) return refuse(NOBODY);
-        if (works.vats.begun[v] > 0 || pair != -1 && works.vats.isPairElsewhere(v, pair)) return refuse(STATE);
+        if (works.vats.begun[v] > 0 || works.vats.isPairElsewhere(v, pair)) return refuse(STATE);
         works.vats.pair[v] = pair == -1 ? NONE : pair;
         return 1;
     }
@@ -754,27 +754,25 @@ public final class PaperMill {
     /**
      * The marks of all sheets of POSTS. No WIRE is set while a POST is made and 30 sheets of a MOULD
      * meet a multiple of 50 at most once, so each MOULD has two GROUPS of sheets in a POST at most:
-     * those ahead of what wandered (0 and 1, by MOULDS) and those behind it (2 and 3).
+     * those ahead of what wandered (0 and 1, by MOULDS) and those behind it (2 and 3). TWINS have made
+     * the same COUNT whenever a POST is done, so both wander behind as many sheets of their own.
      */
     private static final class Marks {
         private final int[] wires = new int[POSTS * GROUPS * WIRES];
-        /** For each POST and each of its MOULDS: how many sheets are ahead of what wandered. */
-        private final int[] early = new int[POSTS * 2];
+        /** For each POST: how many sheets of each of its MOULDS are ahead of what wandered. */
+        private final int[] early = new int[POSTS];
 
         void keep(int post, int[] firstWires, int from, Moulds moulds, int pair) {
             int at = post * GROUPS * WIRES;
             System.arraycopy(firstWires, from, wires, at, PAIR_WIRES);
             System.arraycopy(moulds.wires, pair * PAIR_WIRES, wires, at + PAIR_WIRES, PAIR_WIRES);
-            for (int twin = 0; twin < 2; twin++) {
-                int since = moulds.made[2 * pair + twin] % WANDER_SHEETS;
-                early[2 * post + twin] = MOULD_SHEETS - (since < MOULD_SHEETS ? since : 0);
-            }
+            int since = moulds.made[2 * pair] % WANDER_SHEETS;
+            early[post] = Math.max(0, MOULD_SHEETS - since);
         }
 
         int markOf(int post, int sheet, int wire) {
             int twin = sheet % 2;
-            int group = sheet / 2 < early[2 * post + twin] ? twin : twin + 2;
-            return groupMark(post, group, wire);
+            return groupMark(post, sheet / 2 < early[post] ? twin : twin + 2, wire);
         }
 
         int groupMark(int post, int group, int wire) {
@@ -782,13 +780,12 @@ public final class PaperMill {
         }
 
         int groupSheets(int post, int group) {
-            int ahead = early[2 * post + group % 2];
-            return group < 2 ? ahead : MOULD_SHEETS - ahead;
+            return group < 2 ? early[post] : MOULD_SHEETS - early[post];
         }
 
+        /** Rises with the GROUPS that have sheets. */
         int groupFirst(int post, int group) {
-            int twin = group % 2;
-            return group < 2 ? twin : 2 * early[2 * post + twin] + twin;
+            return group < 2 ? group : 2 * early[post] + group - 2;
         }
     }
 
@@ -1067,12 +1064,10 @@ public final class PaperMill {
 
         private void compare(int post, int group) {
             int near = nearnessOf(post, group);
-            int sheet = posts.marks.groupFirst(post, group);
-            boolean earlier = post == nearestPost && sheet < nearestSheet;
-            if (near < nearness || near == nearness && earlier) {
+            if (near < nearness) {
                 nearness = near;
                 nearestPost = post;
-                nearestSheet = sheet;
+                nearestSheet = posts.marks.groupFirst(post, group);
             }
         }
 

@@ -134,6 +134,9 @@ public final class PromisesTest {
         "load(0,0,0)=-3 hours(23)=0 load(0,0,1)=-3 hours(1)=0 load(0,0,0)=-4 load(0,0,-1)=-4 load(0,0,101)=-6",
         "load(0,0,most)=-6 load(0,0,least)=-4 load(0,0,1)=3 load(0,0,0)=-3 heapOf(0,1)=249 count(11)=4 count(13)=3");
 
+    run(31, "kind(0,0,1,1)=1 rags(0,1)=1 heap(0,1)=0 heapOf(0,3)=1 hours(48)=0 heapOf(0,4)=1 heapOf(0,1)=0 count(8)=1 hours(24)=0",
+        "heapOf(0,4)=1 count(8)=1");
+
     run(32, "kind(0,0,5,2)=1 kind(7,0,5,1)=1 rags(0,50)=50 rags(7,50)=50 heap(0,50)=0 heap(7,50)=1 load(0,0,30)=2",
         "load(2,1,40)=1 beaterOf(0,0)=30 beaterOf(0,1)=0 beaterOf(0,2)=2 beaterOf(0,3)=0 beaterOf(2,1)=7 hours(1)=0",
         "beaterOf(0,2)=1 beaterOf(2,0)=0 beaterOf(2,1)=-9 beaterOf(2,2)=0 beaterOf(2,3)=1 count(37)=560 hours(1)=0",
@@ -148,6 +151,8 @@ public final class PromisesTest {
     run(9, "pair(1)=0 wire(0,0,0)=50 wire(0,0,99)=0 wire(1,5,7)=50 mouldOf(0,0)=99 mouldOf(1,5)=7 mouldOf(1,0)=50",
         "wire(2,0,-1)=-1 wire(-1,0,0)=-1 wire(0,-1,0)=-1 wire(0,6,0)=-1 wire(0,0,-1)=-4 wire(0,0,100)=-6",
         "wire(0,0,least)=-4 wire(0,0,most)=-6 mouldOf(0,0)=99 count(11)=4 count(14)=2 count(16)=2");
+    run(9, "kind(0,0,9,1)=1 rags(0,9)=9 heap(0,9)=0 pair(8)=0 load(0,0,1)=1 vat(2,0)=1 hours(1)=0 vatOf(2,2)=1 wire(0,0,5)=-3",
+        "wire(1,0,5)=-3 vat(2,-1)=-3 vat(2,0)=-3 count(13)=4");
     run(9, VAT, "pair(1)=1 hours(1)=0 wire(0,0,-1)=-3 wire(1,0,100)=-3 wire(2,0,5)=50 wire(0,6,5)=-1 hours(2)=1 wire(0,0,5)=50",
         "hours(1)=0 wire(0,0,5)=-3 count(13)=3");
 
@@ -230,11 +235,18 @@ public final class PromisesTest {
         "fill(1)=11 count(5)=1000000006 sheets(0,1)=26");
     run(19, SHEETS, "order(0,2,1,3,31)=0 order(1,1,1,3,31)=1 order(0,1,3,3,31)=2 fill(0)=1000000003 fill(1)=1000000003",
         "fill(2)=1000000003 sheets(0,1)=986");
+    // Just enough: a POST of 16 GOOD sheets that waited 42 DAYS, and eight of 58.
+    run(19, VAT, "loft(0)=10 hours(3)=1 furnish(0,1)=0 hours(1007)=0 loft(40)=0 hours(1)=0 furnish(0,0)=1 hours(24)=8 hours(10)=3",
+        "furnish(0,1)=0 hides(9)=9 sizeAll()=9 sheets(0,1)=480 order(0,1,1,50,9)=0 fill(0)=9 sheets(0,1)=0");
+    run(19, VAT, "loft(0)=10 hours(3)=1 furnish(0,1)=0 hours(1031)=0 loft(40)=0 hours(1)=0 furnish(0,0)=1 hours(24)=8 hours(10)=3",
+        "furnish(0,1)=0 hides(9)=9 sizeAll()=9 sheets(0,1)=479 order(0,1,1,50,9)=0 fill(0)=1000000003");
     run(19, "order(0,1,1,0,9)=0 fill(0)=1000000003 orderOf(0,5)=-9 count(5)=1000000000");
 
     run(35, "order(3,2,4,50,60)=0 orderOf(0,0)=3 orderOf(0,1)=2 orderOf(0,2)=4 orderOf(0,3)=50 orderOf(0,4)=60 orderOf(0,5)=-9",
         "orderOf(1,9)=-1 orderOf(-1,0)=-1 orderOf(0,-1)=-2 orderOf(0,6)=-2 count(11)=2 count(12)=2");
 
+    run(36, "kind(1,0,9,1)=1 rags(1,9)=9 heap(1,9)=0 load(0,0,9)=1 pair(1)=0 vat(0,0)=1 furnish(0,1)=0 hours(12)=2 hides(1)=1 size(0)=58",
+        "sheets(1,1)=58 sheets(0,1)=0 sheets(0,2)=0 sheets(0,3)=0 sheets(0,7)=0 sheets(0,8)=0 sheets(1,2)=0 sheets(2,1)=0 sheets(8,8)=0");
     run(36, SHEETS, "sheets(0,1)=986 sheets(0,2)=0 sheets(1,1)=0 sheets(-1,1)=-1 sheets(9,1)=-1 sheets(0,0)=-1 sheets(0,9)=-1",
         "sheets(most,1)=-1 sheets(0,least)=-1 count(11)=6");
   }
@@ -308,6 +320,9 @@ public final class PromisesTest {
     run(23, "kind(1,0,1,3)=1 kind(2,0,9,1)=1 rags(1,900)=900 rags(2,9)=9 heap(1,400)=0 heap(2,9)=1 load(0,0,10)=3 load(1,1,9)=1",
         "foretell(47,3)=0 foretell(48,3)=390 foretell(1,4)=126 foretell(3,4)=266 heapOf(0,1)=390 count(8)=0 beaterOf(0,2)=3",
         "hours(48)=0 foretell(1,3)=390 day(2,2,1)=0 foretell(24,4)=266");
+    run(23, "kind(1,0,1,1)=1 rags(1,900)=900 heap(1,400)=0 hours(10)=0 heap(1,50)=1 hours(38)=0 foretell(9,3)=400 foretell(10,3)=450");
+    run(23, "kind(4,0,9,2)=1 rags(4,9)=9 heap(4,9)=0 load(0,0,9)=2 pair(1)=0 vat(0,0)=1 furnish(0,4)=0 loft(0)=10 foretell(1,2)=0",
+        "foretell(2,2)=20 foretell(9,2)=126 foretell(9,4)=0 foretell(99,0)=2 foretell(99,1)=0");
     run(23, "foretell(0,5)=-2 foretell(1,-1)=-2 foretell(241,5)=-2 foretell(0,0)=-4 foretell(-1,4)=-4 foretell(241,0)=-6",
         "foretell(most,0)=-6 foretell(least,0)=-4 foretell(240,0)=0 foretell(1,0)=0 hours(2160)=0 foretell(240,0)=0 hours(1)=0",
         "foretell(240,0)=-6 foretell(239,0)=0 hours(239)=0 foretell(1,0)=-6 count(12)=3 count(14)=3 count(16)=4 count(0)=2400");
