@@ -76,6 +76,7 @@ public final class PaperMill {
 
     private static final int UNREAD = -1;
     private static final int GREATEST_MARK = 99;
+    private static final int FARTHER_THAN_ALL = 1000;
 
     private final Weather weather;
     private final Rags rags;
@@ -656,15 +657,14 @@ public final class PaperMill {
             wires[mould * WIRES + wire] = v;
         }
 
+        /** Each 50th sheet makes a WIRE wander. */
         void countSheet(int mould) {
             made[mould]++;
-            if (made[mould] % WANDER_SHEETS == 0) wander(mould, made[mould] / WANDER_SHEETS);
-        }
-
-        private void wander(int mould, int c) {
+            if (made[mould] % WANDER_SHEETS != 0) return;
+            int c = made[mould] / WANDER_SHEETS;
             int at = mould * WIRES + (c + mould) % WIRES;
-            int step = c / WIRES % 2 == 0 ? 1 : -1;
-            wires[at] = Math.max(0, Math.min(GREATEST_WIRE, wires[at] + step));
+            int wandered = c / WIRES % 2 == 0 ? wires[at] + 1 : wires[at] - 1;
+            if (wandered >= 0 && wandered <= GREATEST_WIRE) wires[at] = wandered;
         }
     }
 
@@ -1054,7 +1054,7 @@ public final class PaperMill {
 
         /** To be asked only with POSTS; left in nearestPost, nearestSheet and nearness. */
         void findNearest() {
-            nearness = Integer.MAX_VALUE;
+            nearness = FARTHER_THAN_ALL;
             for (int post = 0; post < posts.done; post++) {
                 for (int group = 0; group < GROUPS; group++) {
                     if (posts.marks.groupSheets(post, group) > 0) compare(post, group);

@@ -176,7 +176,7 @@ public final class PlainMillTest {
   }
 
   private void keepBusy(int kinds, int sort) {
-    switch (random.nextInt(12)) {
+    switch (random.nextInt(13)) {
       case 0: say("heap", random.nextInt(kinds), within(50, 400)); break;
       case 1: case 2: case 3: say("load", random.nextInt(4), random.nextInt(1 + mill.count(1)), within(20, 100)); break;
       case 4: say("hours", sort == 3 ? within(1, 60) : within(1, 8)); break;
@@ -188,6 +188,7 @@ public final class PlainMillTest {
         break;
       case 8: if (random.nextInt(4) == 0) changeKind(kinds); break;
       case 9: if (random.nextInt(4) == 0) say("vat", random.nextInt(3), within(-1, Math.max(0, mill.count(2) - 1))); break;
+      case 10: if (random.nextInt(2) == 0) say("wire", random.nextInt(2 * mill.count(2)), random.nextInt(6), within(47, 54)); break;
       default:
         String name = Calls.NAMES[random.nextInt(Calls.NAMES.length)];
         if (!name.equals("hours")) say(name, arguments(name));
@@ -224,7 +225,11 @@ public final class PlainMillTest {
     for (int o = 0; o < mill.count(4) && wrong == 0; o++) for (int w = 0; w < 6; w++) say("orderOf", o, w);
     for (int k = 0; k < 9 && wrong == 0; k++) for (int w = 1; w < 9; w++) say("sheets", k, w);
     for (int d = 0; d < 101 && wrong == 0; d++) for (int w = 0; w < 3; w++) say("dayOf", d, w);
-    for (int w = 0; w < 5 && wrong == 0; w++) say("nearest", w);
+    for (int w = 0; w < 25 && wrong == 0; w++) {
+      if (w % 5 == 0) say("oldA", oldMarks());
+      if (w % 5 == 0) say("oldB", oldMarks());
+      say("nearest", w % 5);
+    }
     for (int t = 0; t < 100 && wrong == 0; t += 7) say("lies", t);
     if (mill.count(3) == 80) see("80 posts");
     if (mill.count(0) == 2400) see("hour 2400");

@@ -368,6 +368,9 @@ public final class PromisesTest {
         "oldA(50,53,53)=1 nearest(0)=1 nearest(1)=40 nearest(3)=5 oldA(0,-1,-1)=1 nearest(0)=0 nearest(1)=0 nearest(3)=50",
         "oldB(99,0,50)=1 nearest(3)=149 nearest(5)=-2 nearest(-1)=-2");
     run(29, VAT, "wire(1,5,60)=50 hours(3)=1 oldB(-1,-1,59)=1 nearest(0)=0 nearest(1)=1 nearest(2)=1 nearest(3)=1");
+    run(29, VAT, "hours(3)=1 wire(0,4,10)=50 wire(1,4,11)=50 hours(6)=2 oldB(-1,9,-1)=1 nearest(0)=1 nearest(1)=0 nearest(3)=1",
+        "oldB(-1,13,-1)=1 nearest(0)=1 nearest(1)=1 nearest(2)=1 nearest(3)=2 oldA(-1,51,-1)=1 oldB(-1,10,-1)=1 nearest(0)=1",
+        "nearest(1)=40 nearest(3)=0");
     run(29, PULP, "pair(1)=0 pair(1)=1 vat(1,1)=1 vat(0,0)=1 hours(3)=2 wire(3,0,70)=50 hours(3)=2 oldA(70,-1,-1)=1 nearest(0)=3",
         "nearest(1)=1 nearest(2)=3 nearest(3)=0 nearest(4)=7");
 
