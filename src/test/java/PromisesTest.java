@@ -1,21 +1,9 @@
-import java.util.regex.Matcher;
-import java.util.regex.Pattern;
-
 /** Runs on new objects, by promises, with the answers that the document asks for (reckoned by hand). */
 public final class PromisesTest {
-  private static final Pattern CALL = Pattern.compile("(\\w+)\\(([^)]*)\\)\\s*=\\s*(-?\\d+)");
-  private static final int LEAST = Integer.MIN_VALUE;
-  private static final int MOST = Integer.MAX_VALUE;
-  private static int wrong = 0;
-  private static int said = 0;
-
-  /** 5600 ounces of PULP of KIND 0 at HOUR 1; WATER is 60 on all DAYS. */
-  private static final String PULP = "kind(0,0,40,1)=1 rags(0,20000)=20000 heap(0,400)=0 day(0,0,60)=20"
-      + " load(0,0,100)=1 load(1,0,100)=1 load(2,0,100)=1 load(3,0,100)=1 hours(1)=0 ";
-  /** PULP, and a PAIR of WEIGHT 1 at VAT 0: POSTS will be done at HOURS 4, 7, 10 and so on. */
-  private static final String VAT = PULP + "pair(1)=0 vat(0,0)=1 ";
-  /** 17 POSTS of 58 GOOD sheets each at HOUR 72 (DAY 3), then VAT 0 rests. */
-  private static final String SHEETS = VAT + "hours(51)=17 furnish(0,1)=0 hours(20)=0 hides(20)=20 sizeAll()=17 ";
+  private static final String PULP = Runs.PULP;
+  private static final String VAT = Runs.VAT;
+  private static final String SHEETS = Runs.SHEETS;
+  private static final Runs RUNS = new Runs();
 
   public static void main(String[] args) {
     rows();
@@ -30,46 +18,11 @@ public final class PromisesTest {
     foretelling();
     oldSheets();
     looks();
-    System.out.println(wrong == 0 ? "all " + said + " answers are as due" : wrong + " answers are not as due");
-    if (wrong != 0) System.exit(1);
+    RUNS.end();
   }
 
   private static void run(int promise, String... calls) {
-    PaperMill mill = new PaperMill();
-    for (String part : calls) {
-      Matcher m = CALL.matcher(part);
-      int end = 0;
-      while (m.find()) {
-        if (!part.substring(end, m.start()).isBlank()) throw new IllegalArgumentException(part);
-        end = m.end();
-        check(promise, mill, m.group(1), m.group(2), Integer.parseInt(m.group(3)));
-      }
-      if (!part.substring(end).isBlank()) throw new IllegalArgumentException(part.substring(end));
-    }
-  }
-
-  private static void check(int promise, PaperMill mill, String name, String arguments, int due) {
-    int[] c = new int[6];
-    c[0] = Calls.numberOf(name);
-    String[] words = arguments.isBlank() ? new String[0] : arguments.split(",");
-    if (words.length != Calls.ARGUMENTS[c[0]]) throw new IllegalArgumentException(name + "(" + arguments + ")");
-    for (int i = 0; i < words.length; i++) c[i + 1] = number(words[i].trim());
-    int got = Calls.on(mill, c);
-    said++;
-    if (got != due) {
-      wrong++;
-      System.out.println("promise " + promise + ": " + Calls.tell(c) + " answered " + got + ", due is " + due);
-    }
-  }
-
-  private static int number(String word) {
-    switch (word) {
-      case "true": return 1;
-      case "false": return 0;
-      case "least": return LEAST;
-      case "most": return MOST;
-      default: return Integer.parseInt(word);
-    }
+    RUNS.say("promise " + promise, Runs.read(calls));
   }
 
   private static void rows() {
@@ -392,6 +345,7 @@ public final class PromisesTest {
     run(37, "size(0)=-1 heapOf(0,0)=-1 dayOf(0,7)=-2 vat(0,-1)=1 hides(0)=-4 hides(9999)=-6 hides(9999)=-6 fill(0)=1000000001",
         "order(0,1,1,1,1)=0 fill(0)=1000000003 nearest(0)=-9 count(99)=-9 count(11)=3 count(12)=1 count(13)=1 count(14)=1",
         "count(15)=0 count(16)=2");
+    run(37, Runs.times(511, "size(0)=-1"), "count(11)=511");
     run(37, "rags(8,11)=11 rags(0,5)=5 count(28)=11 count(20)=5 kind(8,0,40,1)=1 heap(8,2)=0 load(0,0,2)=1 hours(1)=0 count(38)=28");
   }
 }
