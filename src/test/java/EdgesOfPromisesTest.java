@@ -402,6 +402,12 @@ public final class EdgesOfPromisesTest {
     edge(29, nearest, VAT, "hours(15)=5 oldA(-1,51,51)=1 oldB(51,-1,-1)=1 nearest(3)=1 nearest(0)=3 nearest(1)=20 hours(3)=1 nearest(3)=0",
         "nearest(0)=5 nearest(1)=0");
 
+    // A POST in which nothing wandered; and two VATS, one of which ends a POST with a sheet that makes WIRES wander.
+    edge(29, nearest, VAT, "hours(6)=2 wire(0,0,60)=50 wire(1,0,70)=50 hours(3)=1 oldA(60,-1,-1)=1 nearest(0)=2 nearest(1)=0 nearest(2)=0 nearest(3)=0",
+        "oldA(70,-1,-1)=1 nearest(0)=2 nearest(1)=1 nearest(2)=1 nearest(3)=0 nearest(4)=10");
+    edge(29, nearest, PULP, "pair(1)=0 pair(1)=1 vat(0,0)=1 hours(9)=3 vat(1,1)=1 hours(6)=4 mouldOf(1,4)=51 oldA(50,50,51)=1 oldB(51,51,50)=1 nearest(3)=1",
+        "nearest(0)=3 nearest(1)=21 nearest(2)=1 nearest(4)=13");
+
     String span = "The first (last true: last) HOUR at which a POST was done that has a sheet of a MOULD by which it LIES with T; -9 there is none. -1; -4; -6.";
     edge(30, span, "span(0,0,true)=-1 pair(1)=0 span(0,0,true)=-9 span(1,99,false)=-9 span(2,0,true)=-1 span(-1,0,true)=-1 span(least,0,true)=-1",
         "span(most,0,true)=-1",
@@ -420,6 +426,9 @@ public final class EdgesOfPromisesTest {
         "oldB(51,-1,-1)=1 span(2,0,false)=7 oldA(70,-1,-1)=1 oldB(-1,50,-1)=1 span(3,0,true)=7 oldB(-1,51,-1)=1 span(3,0,false)=7");
     edge(30, span, VAT, "hours(240)=80 span(0,0,false)=4 span(0,0,true)=241 oldA(99,-1,-1)=1 span(0,0,true)=-9 span(1,0,false)=-9",
         "span(0,50,true)=241");
+    // A WIRE that is set between two POSTS is on the sheets of the second alone.
+    edge(30, span, VAT, "hours(3)=1 wire(0,0,60)=50 hours(3)=1 oldA(60,-1,-1)=1 span(0,0,false)=7 span(1,0,true)=-9 oldA(50,-1,-1)=1 span(0,0,true)=4",
+        "span(1,0,true)=7");
     // What wanders by the last sheet of a POST is on no sheet of it.
     edge(30, span, VAT, "hours(15)=5 oldB(51,-1,-1)=1 span(0,0,true)=-9 hours(3)=1 span(0,0,false)=19 span(0,0,true)=19");
   }
