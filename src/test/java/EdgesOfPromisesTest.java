@@ -5,7 +5,8 @@ public final class EdgesOfPromisesTest {
   private static final String SHEETS = Runs.SHEETS;
   /** Three POSTS at HOURS 4, 7 and 10; in the second MOULD 0's WIRE 1 and MOULD 1's WIRE 2 wander. */
   private static final String THREE = VAT + "hours(9)=3 ";
-  private static final String[] REFUSALS = {
+  /** By calls, in the order in which the document tells them. */
+  static final String[] REFUSALS = {
     "day -1 -2 -4 -6", "dayOf -1 -2", "kind -1 -4 -6", "rags -1 -4 -6", "heap -1 -4 -6", "load -1 -3 -4 -6", "pair -1 -6",
     "wire -1 -3 -4 -6", "mouldOf -1 -2", "vat -1 -3", "furnish -1", "loft -4 -6", "hides -4 -6", "size -1 -3", "duty -1 -4 -6",
     "order -1 -4 -6", "fill -1 -3", "best -3 -4 -6", "bestWorth -3 -4 -6", "hours -4 -6", "foretell -2 -4 -6", "when -4 -6",
